@@ -15,6 +15,7 @@ public final class PromiseTest {
         ofLoads();
         ofLoadsBySea();
         ofComes();
+        ofSixtyDays();
         ofBlow();
         ofNews();
         tell();
@@ -236,6 +237,10 @@ public final class PromiseTest {
         due("how tests are joined", z.of(0, 6), 20);
         charted(z, "sour 1 w>9;sour 2 w>10;sour 4 w<11;sour 8 w<10;sour 16 w=10;sour 32 w=1;sour 64 w=010");
         due("a third digit", z.of(0, 6), 20);
+        charted(z, "sour 1 p=0|p=1|p=2;sour 2 p=1|p=2|p=0&p=0;sour 4 p=0&p=0&p=1;sour 8 (p=0|p=1|p=2)&p=0&!p=1|p=7");
+        due("more than two of each", z.of(0, 6), 21);
+        charted(z, "sour 1 p=0|p=1&p=1|p=2;sour 2 !!p=0;sour 4 !(p=1)&p=0;sour 8 !p=1&!!!p=1;sour 16 !!!p=0");
+        due("more than one !", z.of(0, 6), 25);
         charted(z, "sour 1 w>9;sour 2 w>10;sour 4 w<11;sour 8 w<10;sour 16 w=10;sour 32 w=1;sour 64 v=09");
         due("comparisons", z.of(0, 6), 10 + 1 + 4 + 16 + 64);
     }
@@ -312,6 +317,51 @@ public final class PromiseTest {
         x.sea(1, 9);
         due("the finder is there, but goes on first", x.of(0, 14), 12);
         due("of state 3 now", x.of(0, 13), 0);
+    }
+
+    /** Three whose loads are enough on days 19, 39, 59 alone: each time the first of them comes up. */
+    private static AmberGrains longDays() {
+        AmberGrains x = withKinds(0, 0, 6, 6, 6);
+        for (int p = 0; p < 3; p++) {
+            x.row(p, 3, 9);
+        }
+        charted(x, "sweet 4 d=9;sweet 50 !d=9;room 4");
+        x.tell(0);
+        x.tell(1);
+        return x;
+    }
+
+    private static void ofSixtyDays() {
+        promise = 3;
+        AmberGrains x = longDays();
+        due("day 19", x.of(0, 12), 20);
+        due("day 39", x.of(1, 12), 40);
+        due("never, as it is SILENT", x.of(2, 12), -5);
+        due("by itself in 60 days", x.of(2, 8), 2);
+        x.tell(2);
+        due("day 59", x.of(2, 12), 60);
+        x.sea(0, 1 << 9);
+        due("by 4 in 60 days, from 5", x.of(2, 7), 4);
+        for (int k = 2; k <= 5; k++) {
+            x.sea(k, 4);
+        }
+        due("ashore with day 60", x.of(2, 13), 60);
+        due("the finder comes later", x.of(2, 14), -5);
+        x.sea(1, 8);
+        due("one day later", x.of(2, 14), -5);
+        x.sea(1, 9);
+        due("with day 60", x.of(2, 14), 60);
+        due("ON day 60", x.on(60, 12), 4);
+        due("ON day 59", x.on(59, 12), 1);
+        x.teller(6, 0, 0);
+        x.row(3, 3, 9);
+        x.tell(3);
+        due("day 79", x.of(3, 12), -5);
+        x.pass(19);
+        due("60 days to it", x.of(3, 12), -5);
+        x.pass(1);
+        due("60 days to it", x.of(3, 12), 60);
+        due("the first is up", x.told(5), 14);
     }
 
     private static void ofBlow() {
@@ -471,6 +521,8 @@ public final class PromiseTest {
         due("STATE", x.row(1, 0, 1), -3);
         due("was 0", x.row(0, 3, 9), 0);
         due("was 9", x.row(0, 3, 2), 9);
+        due("was 2", x.row(0, 3, 0), 2);
+        due("was 0", x.row(0, 3, 2), 0);
         due("of another one", x.row(2, 3, 1), 0);
         due("of another day", x.row(0, 2, 1), 0);
         x.pass(3);
@@ -587,6 +639,13 @@ public final class PromiseTest {
         fault("room 1;room 1;room 1;room 1;room 1;room 1;room 1;room 1;room 1;room 1;", 69);
         fault("sour 1 " + "p=1|".repeat(23), 99);
         fault("sour 1 " + "p=1|".repeat(23) + "p", 100);
+        fault("sour 01 " + "p=1|".repeat(23), 100);
+        fault("sour 01 " + "p=1|".repeat(22) + "p=1s", 99);
+        fault("sour 01 " + "p=1|".repeat(21) + "p=1|p<;s", 98);
+        fault("sour 01 " + "p=1|".repeat(21) + "p=11;s", 94 + 4);
+        fault("sour 01 " + "p=1|".repeat(21) + "p=11;;s", 97);
+        fault("sour 001 ", 7);
+        fault("sour 1 " + "p=1|".repeat(22) + "p=1;s", 100);
         due("100 bytes", charted(new AmberGrains(), "sour 01 " + "p=1|".repeat(22) + "p=11"), 0);
     }
 
@@ -867,6 +926,8 @@ public final class PromiseTest {
         due("8 / 12", x.odds(0, 8, 1), 3);
         due("5", x.odds(0, 5, 0), 5);
         due("5 / 12", x.odds(0, 5, 1), 12);
+        due("10", x.odds(0, 10, 0), 5);
+        due("10 / 12", x.odds(0, 10, 1), 6);
         due("12", x.odds(0, 12, 0), 1);
         due("12 / 12", x.odds(0, 12, 1), 1);
         due("20", x.odds(0, 20, 1), 1);
@@ -1127,6 +1188,34 @@ public final class PromiseTest {
         due("a new one, all its own", x.teller(6, 0, 0), 2);
         due("all its own", x.of(2, 4), 0);
         undoReachesTheRows();
+        undoReachesTheLast();
+    }
+
+    private static void undoReachesTheLast() {
+        AmberGrains x = withKinds(0, 20, 6, 6, 6, 6, 6, 6);
+        for (int p = 0; p < 6; p++) {
+            for (int part = 0; part < 4; part++) {
+                x.row(p, part, p + part);
+            }
+            x.put(p, p + 6, 3);
+        }
+        x.image();
+        for (int p = 0; p < 6; p++) {
+            for (int part = 0; part < 4; part++) {
+                x.row(p, part, 9);
+            }
+            x.put(p, 0, 2);
+            x.weigh(p, 0);
+        }
+        x.undo();
+        for (int p = 0; p < 6; p++) {
+            due("WEIGHT", x.of(p, 2), 20);
+            due("STATE", x.of(p, 3), 3);
+            due("PLACE", x.of(p, 5), p + 6);
+            for (int part = 0; part < 4; part++) {
+                due("ROW", x.row(p, part, 0), p + part);
+            }
+        }
     }
 
     /** What the rows say comes back, too, and a number that came and went is another's then. */
