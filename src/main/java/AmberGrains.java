@@ -16,10 +16,11 @@ public final class AmberGrains {
     private static final int MOST_WEIGHT = 20, MOST_V = 9, MOST_CURRENT = 9, MOST_SHORE = 4095;
     private static final int LAST_DAY = 9999, MOST_DAYS = 60, ODDS_DAYS = 20, SEEN_DAYS = 12;
     private static final int ROOM_WITHOUT = 30;
+    private static final int NO_BOUND = 2147483647;
 
     private final World now = new World(LAST_DAY);
     // What is asked goes on beyond the last day, so there an age has no bound but its type's.
-    private final World trial = new World(Integer.MAX_VALUE);
+    private final World trial = new World(NO_BOUND);
     private final World imaged = new World(LAST_DAY);
     private boolean hasImage = false;
 

@@ -28,7 +28,7 @@ public final class RulesTest {
         "\\bthrows?\\b", "\\btry\\b", "\\bcatch\\b", "\\bsynchronized\\b", "\\bassert\\b", "->", "::", "@",
         "\\bdouble\\b", "\\bfloat\\b", "\\bstatic\\s*\\{", "\\bSystem\\.(?!arraycopy)", "\\bThread\\b", "\\bRandom\\b",
         "Exact\\b", "\\bobject\\.", "\\bpackage\\b", "\\bhashCode\\b", "\\bequals\\b", "\\btoString\\b", "\\bvar\\b",
-        "\\bprotected\\b", "\\binstanceof\\b", "\\bgetClass\\b",
+        "\\bprotected\\b", "\\binstanceof\\b", "\\bgetClass\\b", "\\bInteger\\.[A-Z]",
     };
     private static int wrong = 0;
 
