@@ -525,6 +525,21 @@ public final class DaysEdgesTest {
         }
     }
 
+    // Promise 14 (Terms 2): "goes on from how all is (DAYS, AGE beyond 9999, too),"
+    private static void beginBeyondTheLastDay() {
+        AmberGrains x = Edges.pass(Edges.tellers(0, 0, 0), 9999);
+        x.put(0, 4, 2);
+        Edges.currents(x, 0);
+        x.sea(2, 1);
+        x.sea(0, 1 << 5);
+        // The CURRENT of DAY 10000 brings it to 5, so one DAY is too few.
+        Edges.due("one DAY", x.begin(1, 1), 0);
+        Edges.due("two DAYS", x.begin(2, 1), 1);
+        Edges.due("from 3 two on", x.begin(2, 0), 3);
+        Edges.due("twenty", x.begin(20, 1), 1);
+        Edges.due("DAY", x.told(0), 9999);
+    }
+
     // Promise 14 (Answers): "what is asked changes nothing."
     private static void beginChangesNothing() {
         for (int n : new int[] {1, 20}) {
@@ -692,6 +707,21 @@ public final class DaysEdgesTest {
         Edges.due("ADRIFT already: none is less than 0", by.of(0, 8), -5);
         by.put(0, 3, 4);
         Edges.due("FOUND already", by.of(0, 8), -5);
+    }
+
+    // Promise 3 (Terms 2): "goes on from how all is (DAYS, AGE beyond 9999, too),"
+    private static void ofBeyondTheLastDay() {
+        AmberGrains x = Edges.pass(Edges.tellers(0, 0, 0, 0), 9999);
+        Edges.chart(x, "sour 31 d=0&p=1");
+        x.sea(0, 1 << 9);
+        x.tell(0);
+        Edges.due("COMES, as it is", x.of(1, 12), -5);
+        Edges.due("NEWS: itself, with DAY 10000", x.of(1, 8), 1);
+        x.tell(1);
+        Edges.due("COMES", x.of(1, 12), 2);
+        // Up at (10000 and 3) modulo 12, that is 7.
+        Edges.due("BLOW to 9", x.of(1, 7), 2);
+        Edges.due("DAY", x.told(0), 9999);
     }
 
     // Promise 3 (Terms 2): "if less than as it is, likewise"

@@ -166,6 +166,30 @@ public final class SeenEdgesTest {
         Edges.due("on DAY 7, with DAY 11", x.weights(0) & 1, 1);
     }
 
+    // Promise 16 (Terms 2): "goes on from how all is (DAYS, AGE beyond 9999, too),"
+    private static void seenBeyondTheLastDay() {
+        AmberGrains x = Edges.pass(Edges.tellers(3, 4, 1), 9999);
+        x.tell(0);
+        Edges.chart(x, "sour 20 d=1&a=2;room 28");
+        x.sea(0, 0);
+        x.see(0, 2, 1);
+        x.see(0, 3, 2);
+        // With DAY 10001, if WEIGHT and v are 9 or more together.
+        Edges.due("WEIGHTS", x.weights(0), ALL & ~((1 << 6) - 1));
+        Edges.due("CAN", x.can(0, 0), 5);
+        Edges.due("CAN, the least", x.can(0, 1), 5);
+        x.sea(2, 1);
+        x.sea(3, 0);
+        x.sea(4, 0);
+        x.sea(5, 0);
+        x.put(0, 4, 2);
+        x.sea(0, 1 << 5);
+        oddsAre(x, 0, 1, 0, 1);
+        oddsAre(x, 0, 2, 1, 12);
+        oddsAre(x, 0, 3, 1, 6);
+        Edges.due("DAY", x.told(0), 9999);
+    }
+
     // Promise 16: "WEIGHTS (bits). NONE."
     private static void weightsOfNoSuchOne() {
         for (int p : Edges.outside(0, 4)) {
