@@ -909,7 +909,7 @@ public final class AmberGrains {
                 if (!both && waits) {
                     step(Sea.OR, 0, 0);
                 }
-                waits |= !both;
+                waits = waits || !both;
                 single(depth);
                 if (both) {
                     step(Sea.AND, 0, 0);
@@ -979,7 +979,7 @@ public final class AmberGrains {
                 at++;
                 digits++;
             }
-            fits &= digits > 0;
+            fits = fits && digits > 0;
             return n;
         }
 

@@ -6,7 +6,11 @@ import java.util.Random;
 public final class ModelTest {
     private static final long NO = Long.MIN_VALUE;
     private static final int OUT = -10001;
+    private static final int MOST_CALLS = 512, RUNS = 800;
+    // The longest that one step of a run can go on: a text fed and charted, and all that asks() asks of six.
+    private static final int STEP_CALLS = 102, ASKS_CALLS = 136;
     private static int wrong = 0;
+    private static int calls = 0;
 
     /** One that tells, as the document's tables have it. */
     private static final class One {
@@ -824,7 +828,9 @@ public final class ModelTest {
         return b.toString();
     }
 
+    /** Each answer is one call; an object is used for 512 of them and no more. */
     private static boolean due(int run, String call, long got, long want) {
+        calls++;
         if (got != want) {
             wrong++;
             System.out.println("run " + run + ": " + call + " answered " + got + ", due is " + want);
@@ -995,6 +1001,7 @@ public final class ModelTest {
         Random random = new Random(number);
         AmberGrains x = new AmberGrains();
         ModelTest model = new ModelTest();
+        calls = 0;
         int tellers = random.nextInt(7);
         for (int i = 0; i < tellers; i++) {
             int kind = random.nextInt(7);
@@ -1007,16 +1014,21 @@ public final class ModelTest {
                 due(number, "pass", x.pass(60 - i / 166 * 30), model.pass(60 - i / 166 * 30));
             }
         }
-        for (int i = 0; i < 70 && wrong < 20; i++) {
+        for (int i = 0; calls <= MOST_CALLS - STEP_CALLS && wrong < 20; i++) {
             model.call(random, number, x);
-            if (i % 10 == 9) {
+            if (i % 10 == 9 && calls <= MOST_CALLS - ASKS_CALLS) {
                 model.asks(number, x);
             }
+        }
+        while (calls < MOST_CALLS && wrong < 20) {
+            int what = calls % 15;
+            int n = calls % 61;
+            due(number, "on " + n + " " + (what + 10), x.on(n, what + 10), model.on(n, what + 10));
         }
     }
 
     public static void main(String[] args) {
-        for (int number = 1; number <= 300 && wrong < 20; number++) {
+        for (int number = 1; number <= RUNS && wrong < 20; number++) {
             run(number);
         }
         System.out.println(wrong == 0 ? "all runs go as the model's" : wrong + " answers are not the model's");
